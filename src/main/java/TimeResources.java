@@ -1286,7 +1286,7 @@ public final class TimeResources {
         final Bounds bounds;
         final Rules rules;
         final Plan best;
-        // One for each depth, as a try below must not spoil what the tries above go back to.
+        // One for each depth, as the tries below must not spoil what the ones above go back to.
         final Bounds[] nodes = new Bounds[MAX_INTERVALS];
         int limit;
         int tries;

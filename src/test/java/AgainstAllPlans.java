@@ -9,7 +9,7 @@ import java.util.Random;
  */
 public final class AgainstAllPlans {
     private static final int ABSENT = -2;
-    private static final int PROBLEMS = 6000;
+    private static final int PROBLEMS = 20000;
     private static int wrong = 0;
     private static int solved = 0;
     private static int without = 0;
