@@ -1,4 +1,7 @@
-/** Objects that are full: ten intervals, twenty ORDERS, six breaks, ten EVENTS, nine options; each RULE goes up to the last. */
+/**
+ * Objects that are full: ten intervals, twenty ORDERS, six breaks, ten EVENTS, nine options. Each RULE
+ * goes up to the last.
+ */
 public final class FullObjects {
     private static final int NONE = TimeResources.NONE, FULL = TimeResources.FULL;
     private static String about = "";

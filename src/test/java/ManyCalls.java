@@ -86,7 +86,8 @@ public final class ManyCalls {
     }
 
     private static void theRoom() {
-        if (!(ManagementFactory.getThreadMXBean() instanceof ThreadMXBean bean) || !bean.isThreadAllocatedMemorySupported()) {
+        if (!(ManagementFactory.getThreadMXBean() instanceof ThreadMXBean bean)
+                || !bean.isThreadAllocatedMemorySupported()) {
             return;
         }
         long thread = Thread.currentThread().getId();

@@ -37,7 +37,8 @@ public final class RefusedCalls {
                 System.out.println("no call of kind " + which + " was refused");
             }
         }
-        System.out.println(RUNS + " runs; " + (wrong == 0 ? "refused calls change nothing" : wrong + " answers are not as due"));
+        System.out.println(RUNS + " runs; "
+                + (wrong == 0 ? "refused calls change nothing" : wrong + " answers are not as due"));
         if (wrong != 0) {
             System.exit(1);
         }
@@ -65,7 +66,10 @@ public final class RefusedCalls {
         int k = any(0, 1);
         boolean flag = random.nextBoolean();
         switch (any(0, 16)) {
-            case 0, 1 -> same("interval", plain.interval(v % 5, k, k + v, flag), bothered.interval(v % 5, k, k + v, flag));
+            case 0, 1 -> {
+                int length = v % 5;
+                same("interval", plain.interval(length, k, k + v, flag), bothered.interval(length, k, k + v, flag));
+            }
             case 2 -> same("capacity", plain.capacity(k, v), bothered.capacity(k, v));
             case 3 -> same("need", plain.need(k, i, v % 4), bothered.need(k, i, v % 4));
             case 4 -> same("pause", plain.pause(k, 3 * v, 3 * v + 2), bothered.pause(k, 3 * v, 3 * v + 2));

@@ -69,7 +69,10 @@ public final class SentencesOfRules {
 
     /** An interval of a PRESENCE. */
     private static int any(int presence, int length, int from, int to) {
-        return presence == 1 ? present(length, from, to) : presence == 2 ? open(length, from, to) : absent(length, from, to);
+        if (presence == 0) {
+            return absent(length, from, to);
+        }
+        return presence == 1 ? present(length, from, to) : open(length, from, to);
     }
 
     private static void dueBounds(String when, int i, int first, int last, int presence) {
@@ -267,9 +270,53 @@ public final class SentencesOfRules {
             }
         }
         masters();
+        risingResources();
+        risingRows();
         risingIntervals();
         risingWindows();
         risingPairs();
+    }
+
+    /** One resource puts 1 at 5 or later, the other then 2 at 8 or later: in one ROUND if it comes behind. */
+    private static void risingResources() {
+        for (int turn = 0; turn <= 1; turn++) {
+            fresh();
+            present(5, 0, 0);
+            present(3, 0, 6);
+            present(2, 5, 20);
+            int one = turn == 0 ? 0 : 2;
+            int other = 1;
+            x.capacity(one, 1);
+            x.need(one, 0, 1);
+            x.need(one, 1, 1);
+            x.capacity(other, 3);
+            x.need(other, 1, 2);
+            x.need(other, 2, 2);
+            holds("resources", 2);
+            due("resources, ROUNDS", x.told(1), turn == 0 ? 2 : 3);
+            dueBounds("resources", 1, 5, 6, 1);
+            dueBounds("resources", 2, 8, 20, 1);
+        }
+    }
+
+    /** One row puts 1 at 5 or later, the other then behind 2: in one ROUND if it comes behind. */
+    private static void risingRows() {
+        for (int turn = 0; turn <= 1; turn++) {
+            fresh();
+            present(1, 0, 0);
+            present(1, 0, 9);
+            present(1, 3, 9);
+            x.row(turn, 0);
+            x.row(turn, 1);
+            x.row(1 - turn, 1);
+            x.row(1 - turn, 2);
+            x.change(0, 0, 0, 4);
+            x.change(1, 0, 0, 4);
+            holds("rows", 2);
+            due("rows, ROUNDS", x.told(1), turn == 0 ? 2 : 3);
+            dueBounds("rows", 1, 8, 9, 1);
+            dueBounds("rows", 2, 3, 4, 1);
+        }
     }
 
     /** RULE 3 narrows the one of LENGTH 2 by the other, and the other by that only if its turn is later. */
@@ -1267,7 +1314,7 @@ public final class SentencesOfRules {
     }
 
     private static void justOneAhead() {
-        says("e of y is at least x's earliest end, if x is present; l of x at most l of y, less p of x, if y is present");
+        says("e of y at least x's earliest end, if x is present; l of x at most l of y, less p of x, if y is present");
         for (int turn = 0; turn <= 1; turn++) {
             int first = turn;
             int second = 1 - turn;
@@ -1447,7 +1494,7 @@ public final class SentencesOfRules {
         present(2, 0, 4);
         present(4, 0, 3);
         allInRow(0);
-        // From 0 to 6 the last one's e is 3, so that 3 is an a: from 3 to 7 the others' l are 2 and 1; RULE 7 does the rest.
+        // From 0 to 6 the last one's e is 3, so that 3 is an a: from 3 to 7 the others' l are 2 and 1; then RULE 7.
         holds("a is what it has become", 4);
         due("a is what it has become, ROUNDS", x.told(1), 2);
         dueBounds("a is what it has become", 0, 2, 2, 1);
@@ -1665,7 +1712,7 @@ public final class SentencesOfRules {
     }
 
     private static void edgesPushL() {
-        says("if P + its p is above (the greater of b and its latest end) - a: its l is at most SET's start, less its p");
+        says("if P + its p is above (the greater of b and its latest end) - a: l is at most SET's start, less its p");
         for (int presence = 1; presence <= 2; presence++) {
             fresh();
             present(3, 10, 14);
@@ -1769,9 +1816,12 @@ public final class SentencesOfRules {
         present(0, 4, 5);
         present(3, 3, 4);
         allInRow(0);
-        // RULE 5 puts the last two at 4, RULE 6 the first two at 1 and 2 or earlier; from 0 to 4 the last one is not last.
+        // RULE 5 puts the last two at 4, RULE 6 the first two at 1 and 2 or earlier; from 0 to 4 3 is not last.
         fails("four in a row");
         due("four in a row, ROUNDS", x.told(1), 1);
+        x.store(0, 5, 6, 7);
+        x.event(0, 0, false, 1);
+        fails("four in a row, ahead of a store");
         dueBounds("four in a row", 3, 3, 4, 1);
         dueBounds("four in a row", 0, 0, 6, 1);
     }
@@ -2035,6 +2085,7 @@ public final class SentencesOfRules {
             othersAbsent();
             masterBounds();
             masterBoundsAtTheEnds();
+            masterThenOptions();
             optionBounds();
         }
         noChoice();
@@ -2171,6 +2222,26 @@ public final class SentencesOfRules {
         fails("a present master that starts too late");
         starts(1, 0, 3);
         fails("a present master that starts too early");
+    }
+
+    private static void masterThenOptions() {
+        says("Then e of the master, l; e and l of each option");
+        fresh();
+        for (int i = 0; i < 3; i++) {
+            if (i == master) {
+                open(2, 2, 9);
+            } else {
+                open(2, i == first ? 0 : 5, i == first ? 1 : 8);
+            }
+        }
+        x.option(master, first);
+        x.option(master, second);
+        // The first option's e counts for the master, that makes it absent only then; so e is 5 in ROUND 2.
+        holds("an option that is too early", 3);
+        due("an option that is too early, ROUNDS", x.told(1), 3);
+        dueBounds("the master", master, 5, 8, 2);
+        dueBounds("the first option", first, 0, 1, 0);
+        dueBounds("the second option", second, 5, 8, 2);
     }
 
     private static void masterBoundsAtTheEnds() {

@@ -28,6 +28,7 @@ public final class SentencesOfSolve {
         absentIsAbsent();
         allRulesEachTime();
         endsEarlier();
+        aheadOfTheRules();
         endsEarlierMakesAbsent();
         answers();
         noneBehindTries();
@@ -269,6 +270,22 @@ public final class SentencesOfSolve {
         // 0 at 0; 1 from 2 to 5; 0 from 1 to 3, where 1 cannot end earlier and is not TRIED.
         dueSolve(y, 400, 1, 8, 3);
         duePlan(y, 0, 2);
+    }
+
+    private static void aheadOfTheRules() {
+        says(21, "ahead of the RULES, bounds l");
+        TimeResources x = of(9, 0, 0, true);
+        x.interval(1, 0, 9, false);
+        x.interval(3, 0, 9, false);
+        x.before(1, 2, 0);
+        // 0 at 0; 1 at 0; 2 from 1 to 9; 1 from 1 to 8: all end at 9 at least.
+        dueSolve(x, 19, 2, 19, 9);
+        duePlan(x, 0, 0, 1);
+        // 0 as absent, then 2 is at 5 or earlier, so that by RULE 1 the first is at 4 or earlier.
+        // 1 at 0; 2 from 1 to 5; 1 from 1 to 4.
+        dueSolve(x, 400, 1, 30, 4);
+        duePlan(x, NONE, 0, 1);
+        dueSolve(x, 29, 2, 29, 4);
     }
 
     private static void endsEarlierMakesAbsent() {
