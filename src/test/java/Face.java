@@ -8,6 +8,7 @@ import java.nio.file.Path;
 import java.util.Arrays;
 import java.util.Set;
 import java.util.TreeSet;
+import java.util.regex.Matcher;
 import java.util.regex.Pattern;
 
 /** The class shows the document's face and nothing else, and its text keeps to the language's rules. */
@@ -46,7 +47,9 @@ public final class Face {
         for (Class<?> c : inside) {
             due(c + " is static", Modifier.isStatic(c.getModifiers()), true);
             due(c + " has at most twenty fields", c.getDeclaredFields().length <= 20, true);
+            ownMethods(c);
         }
+        ownMethods(face);
         words();
         System.out.println(wrong == 0 ? "the face is as due" : wrong + " things are not as due");
         if (wrong != 0) {
@@ -65,6 +68,19 @@ public final class Face {
             }
         }
         due("methods", seen, new TreeSet<>(Arrays.asList(METHODS)));
+    }
+
+    private static void ownMethods(Class<?> c) {
+        Set<String> faceNames = new TreeSet<>();
+        for (String method : METHODS) {
+            faceNames.add(method.substring(0, method.indexOf('(')));
+        }
+        for (Method m : c.getDeclaredMethods()) {
+            due(m + " has at most seven parameters", m.getParameterCount() <= 7, true);
+            if (!Modifier.isPublic(m.getModifiers())) {
+                due(m + " bears a public one's name", faceNames.contains(m.getName()), false);
+            }
+        }
     }
 
     private static void fields(Class<?> face) {
@@ -87,6 +103,30 @@ public final class Face {
             boolean isWord = Character.isLetter(word.charAt(0));
             String pattern = isWord ? "\\b" + word + "\\b" : Pattern.quote(word);
             due("the text has " + word, Pattern.compile(pattern).matcher(text).find(), false);
+        }
+        for (String line : text.split("\n")) {
+            if (line.startsWith("import")) {
+                due("an import", line, "import java.util.Arrays;");
+            }
+        }
+        methodLengths(text);
+    }
+
+    /** A method's last line is the first brace behind its head that stands as far in as the head. */
+    private static void methodLengths(String text) {
+        Pattern head = Pattern.compile("^( {4}| {8})[a-zA-Z][^;=]*\\(.*\\{$");
+        int from = 0;
+        String end = "";
+        String[] lines = text.split("\n");
+        for (int k = 0; k < lines.length; k++) {
+            Matcher m = head.matcher(lines[k]);
+            if (end.isEmpty() && m.matches()) {
+                from = k;
+                end = m.group(1) + "}";
+            } else if (lines[k].equals(end)) {
+                due("a method of at most sixty lines from " + lines[from].strip(), k - from < 60, true);
+                end = "";
+            }
         }
     }
 }
